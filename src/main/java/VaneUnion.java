@@ -40,8 +40,7 @@ public final class VaneUnion {
     private int undoableChanges;
     private final Books snapshot;
     private boolean hasSnapshot;
-    private final StringBuilder text;
-    private final Reader reader;
+    private final CommandText commands;
     private int lastErrorPosition;
     private int lastFailedCommand;
     private final StringBuilder line;
@@ -53,8 +52,7 @@ public final class VaneUnion {
             history[row] = new Books();
         }
         snapshot = new Books();
-        text = new StringBuilder();
-        reader = new Reader(text);
+        commands = new CommandText();
         lastErrorPosition = NONE;
         lastFailedCommand = NONE;
         line = new StringBuilder();
@@ -325,18 +323,18 @@ public final class VaneUnion {
         if (character < FIRST_CHARACTER || character > LAST_CHARACTER) {
             throw new IllegalArgumentException("the character is not from 32 to 126");
         }
-        if (text.length() >= TEXT_LIMIT) {
+        if (commands.text.length() >= TEXT_LIMIT) {
             throw new IllegalStateException("the command text is full");
         }
-        text.append(character);
-        return text.length();
+        commands.text.append(character);
+        return commands.text.length();
     }
 
     public int run() throws IllegalArgumentException, IllegalStateException {
-        boolean isCommandText = reader.readText();
-        text.setLength(0);
+        boolean isCommandText = commands.readText();
+        commands.text.setLength(0);
         if (!isCommandText) {
-            lastErrorPosition = reader.position;
+            lastErrorPosition = commands.position;
             throw new IllegalArgumentException("the text is not a command text");
         }
         int failed = carryOutAll();
@@ -344,7 +342,7 @@ public final class VaneUnion {
             lastFailedCommand = failed;
             throw new IllegalStateException("a command fails");
         }
-        return reader.commandCount;
+        return commands.count;
     }
 
     public int errorPosition() throws NoSuchElementException {
@@ -489,8 +487,8 @@ public final class VaneUnion {
     /** Answers the index of the failed command, or NONE. */
     private int carryOutAll() {
         beginChange();
-        for (int index = 0; index < reader.commandCount; index++) {
-            Command command = reader.commands[index];
+        for (int index = 0; index < commands.count; index++) {
+            Command command = commands.rows[index];
             if (books.faultOf(command) != Fault.NOTHING) {
                 books.copyFrom(history[freeRow]);
                 return index;
@@ -1067,29 +1065,29 @@ public final class VaneUnion {
         }
     }
 
-    /** Reads the command text; where it stops is the error position. */
-    private static final class Reader {
+    /** The command text, and the commands read from it; where reading stops is the error position. */
+    private static final class CommandText {
         final StringBuilder text;
-        final Command[] commands;
-        int commandCount;
+        final Command[] rows;
+        int count;
         int position;
 
-        Reader(StringBuilder text) {
-            this.text = text;
-            commands = new Command[COMMAND_LIMIT];
+        CommandText() {
+            text = new StringBuilder();
+            rows = new Command[COMMAND_LIMIT];
             for (int row = 0; row < COMMAND_LIMIT; row++) {
-                commands[row] = new Command();
+                rows[row] = new Command();
             }
         }
 
         boolean readText() {
             position = 0;
-            commandCount = 0;
-            while (commandCount < COMMAND_LIMIT) {
-                if (!readCommand(commands[commandCount])) {
+            count = 0;
+            while (count < COMMAND_LIMIT) {
+                if (!readCommand(rows[count])) {
                     return false;
                 }
-                commandCount++;
+                count++;
                 if (position >= text.length()) {
                     return true;
                 }

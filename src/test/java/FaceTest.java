@@ -93,6 +93,7 @@ public final class FaceTest {
                 wrong += tell("not private: " + field);
             }
         }
+        wrong += countBorrowedNames();
         Constructor<?>[] constructors = VaneUnion.class.getDeclaredConstructors();
         if (constructors.length != 1 || !Modifier.isPublic(constructors[0].getModifiers())
                 || constructors[0].getParameterCount() != 0) {
@@ -105,6 +106,28 @@ public final class FaceTest {
         if (wrong != 0) {
             System.exit(1);
         }
+    }
+
+    /** No method of the inside may bear the name of a method of the face. */
+    private static int countBorrowedNames() {
+        TreeSet<String> names = new TreeSet<>();
+        for (String row : FACE) {
+            names.add(row.substring(row.indexOf(' ') + 1, row.indexOf('(')));
+        }
+        int wrong = 0;
+        for (Class<?> inside : VaneUnion.class.getDeclaredClasses()) {
+            for (Method method : inside.getDeclaredMethods()) {
+                if (names.contains(method.getName())) {
+                    wrong += tell("a name of the face: " + method);
+                }
+            }
+        }
+        for (Method method : VaneUnion.class.getDeclaredMethods()) {
+            if (Modifier.isPrivate(method.getModifiers()) && names.contains(method.getName())) {
+                wrong += tell("a name of the face: " + method);
+            }
+        }
+        return wrong;
     }
 
     private static int tell(String what) {

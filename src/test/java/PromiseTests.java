@@ -48,6 +48,9 @@ public final class PromiseTests {
     public static void main(String[] args) {
         testNewObject();
         testMembers();
+        testMembersAfterRestoring();
+        testAcceptanceOfRestoredMember();
+        testFullUnion();
         testMemberQueries();
         testRanks();
         testWind();
@@ -78,6 +81,7 @@ public final class PromiseTests {
         testIsConsistent();
         testUndo();
         testUndoOfEachChange();
+        testUndoGoesBackOneChange();
         testSnapshot();
         testWhatIsNeitherUndoneNorSaved();
         testRefusedCallsAreNoChanges();
@@ -220,6 +224,89 @@ public final class PromiseTests {
         eq(0, again.wagesOf(0));
         eq(false, again.hasVoted(0));
         refuses(ELEMENT, () -> again.listOf(0));
+    }
+
+    private static void testMembersAfterRestoring() {
+        promise = 2;
+        VaneUnion x = new VaneUnion();
+        x.save();
+        x.addMember(4, 9);
+        x.setWind(6, 1);
+        x.passShifts(2);
+        strike(x);
+        x.payIn(9);
+        x.signUp(2, 0);
+        x.passShifts(3);
+        x.addMember(5, 9);
+        x.makeOffer(3);
+        x.accept(0);
+        x.restore();
+        eq(0, x.addMember(8, 4));
+        eq("m0@8a 0", line(x, x.describeMember(0)));
+        eq(4, x.rateOf(0));
+        eq(0, x.dutiesOf(0));
+        eq(0, x.membersOn(4));
+        refuses(ELEMENT, () -> x.listOf(0));
+        x.vote(0, true);
+        x.callStrike();
+        x.makeOffer(1);
+        eq(0, x.acceptances());
+        promise = 57;
+        x.restore();
+        x.addMember(8, 4);
+        x.vote(0, true);
+        x.restore();
+        x.addMember(7, 5);
+        eq(false, x.hasVoted(0));
+        x.save();
+        x.undo();
+        x.addMember(6, 3);
+        x.restore();
+        eq(7, x.roofOf(0));
+        eq(5, x.rateOf(0));
+    }
+
+    private static void testAcceptanceOfRestoredMember() {
+        promise = 2;
+        VaneUnion x = onStrike(3);
+        x.makeOffer(3);
+        x.save();
+        x.addMember(0, 5);
+        x.accept(3);
+        x.restore();
+        x.addMember(0, 5);
+        eq(0, x.acceptances());
+        eq(false, x.accept(3));
+    }
+
+    private static void testFullUnion() {
+        VaneUnion x = onStrike(12);
+        promise = 23;
+        eq(0, x.votesFor());
+        promise = 37;
+        eq(0, x.makeOffer(5));
+        promise = 38;
+        for (int member = 11; member > 5; member--) {
+            eq(false, x.accept(member));
+        }
+        promise = 40;
+        eq(6, x.acceptances());
+        promise = 37;
+        eq(6, x.makeOffer(10));
+        promise = 35;
+        x.signUp(3, 11);
+        refuses(ELEMENT, () -> x.listedAt(3, 1));
+        promise = 38;
+        for (int member = 0; member < 6; member++) {
+            eq(false, x.accept(member));
+        }
+        eq(true, x.accept(11));
+        eq(14, x.rateOf(11));
+        strike(x);
+        promise = 37;
+        eq(0, x.makeOffer(10));
+        promise = 54;
+        eq(true, x.isConsistent());
     }
 
     private static void testMemberQueries() {
@@ -621,6 +708,10 @@ public final class PromiseTests {
         eq(2, x.strikeOff(4));
         eq(0, x.listLength(2));
         eq(3, x.strikeOff(0));
+        x.signUp(6, 3);
+        x.signUp(6, 0);
+        x.strikeOff(3);
+        checkList(x, 6, 0);
     }
 
     private static void testListQueries() {
@@ -1203,6 +1294,34 @@ public final class PromiseTests {
         checkList(x, 4, 1, 2, 0);
         x.undo();
         eq(0, x.acceptances());
+    }
+
+    /** The coins paid before a change tell whether undo brings back the books right before it. */
+    private static void testUndoGoesBackOneChange() {
+        promise = 55;
+        Call[] changes = new Call[11];
+        VaneUnion x = withMembers(3);
+        changes[0] = () -> x.addMember(0, 1);
+        changes[1] = () -> x.setWind(1, 1);
+        changes[2] = () -> x.passShifts(1);
+        changes[3] = () -> x.payIn(500);
+        changes[4] = () -> x.vote(0, true);
+        changes[5] = () -> run(x, "vote 1+;vote 2+");
+        changes[6] = () -> x.callStrike();
+        changes[7] = () -> x.signUp(1, 1);
+        changes[8] = () -> x.strikeOff(1);
+        changes[9] = () -> x.makeOffer(3);
+        changes[10] = () -> x.accept(1);
+        for (Call change : changes) {
+            for (int i = 0; i < 9; i++) {
+                x.payIn(1);
+            }
+            int before = x.fund();
+            change.make();
+            eq(7, x.undo());
+            eq(before, x.fund());
+            change.make();
+        }
     }
 
     private static void testSnapshot() {
