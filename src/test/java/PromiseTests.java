@@ -1,50 +1,5 @@
-import java.util.NoSuchElementException;
-
 /** Tests promise by promise: ordinary inputs, the edges that the document names, wrong inputs. */
-public final class PromiseTests {
-    private static final Class<?> INDEX = IndexOutOfBoundsException.class;
-    private static final Class<?> ARGUMENT = IllegalArgumentException.class;
-    private static final Class<?> STATE = IllegalStateException.class;
-    private static final Class<?> UNSUPPORTED = UnsupportedOperationException.class;
-    private static final Class<?> ELEMENT = NoSuchElementException.class;
-    private static final Class<?> ARITHMETIC = ArithmeticException.class;
-    private static final int[] NO_ROOFS = {-1, 10, Integer.MIN_VALUE, Integer.MAX_VALUE};
-
-    private static int promise;
-    private static int wrong;
-
-    private interface Call {
-        Object make();
-    }
-
-    private static void eq(Object want, Object got) {
-        if (!want.equals(got)) {
-            tell("answered " + got + ", due is " + want);
-        }
-    }
-
-    private static void refuses(Class<?> want, Call call) {
-        try {
-            tell("answered " + call.make() + ", due is " + want.getName());
-        } catch (RuntimeException e) {
-            if (e.getClass() != want) {
-                tell("threw " + e.getClass().getName() + ", due is " + want.getName());
-            }
-        }
-    }
-
-    private static void tell(String what) {
-        wrong++;
-        int row = 0;
-        for (StackTraceElement element : new Throwable().getStackTrace()) {
-            if (element.getMethodName().startsWith("test")) {
-                row = element.getLineNumber();
-                break;
-            }
-        }
-        System.out.println("promise " + promise + ", row " + row + ": " + what);
-    }
-
+public final class PromiseTests extends TestKit {
     public static void main(String[] args) {
         testNewObject();
         testMembers();
@@ -85,52 +40,7 @@ public final class PromiseTests {
         testSnapshot();
         testWhatIsNeitherUndoneNorSaved();
         testRefusedCallsAreNoChanges();
-        System.out.println("PromiseTests: " + wrong + " wrong");
-        if (wrong != 0) {
-            System.exit(1);
-        }
-    }
-
-    // ---- makers
-
-    private static VaneUnion withMembers(int count) {
-        VaneUnion x = new VaneUnion();
-        for (int i = 0; i < count; i++) {
-            x.addMember(i % 10, i + 1);
-        }
-        return x;
-    }
-
-    private static VaneUnion onStrike(int count) {
-        VaneUnion x = withMembers(count);
-        strike(x);
-        return x;
-    }
-
-    private static void strike(VaneUnion x) {
-        for (int i = 0; i < x.memberCount(); i++) {
-            x.vote(i, true);
-        }
-        x.callStrike();
-    }
-
-    private static void write(VaneUnion x, String text) {
-        for (char c : text.toCharArray()) {
-            x.append(c);
-        }
-    }
-
-    private static int run(VaneUnion x, String text) {
-        write(x, text);
-        return x.run();
-    }
-
-    private static String line(VaneUnion x, int length) {
-        StringBuilder made = new StringBuilder();
-        for (int i = 0; i < length; i++) {
-            made.append(x.lineAt(i));
-        }
-        return made.toString();
+        finish("PromiseTests");
     }
 
     // ---- tests
@@ -164,7 +74,7 @@ public final class PromiseTests {
         refuses(INDEX, () -> x.lineAt(0));
         refuses(STATE, () -> x.undo());
         refuses(STATE, () -> x.restore());
-        VaneUnion other = withMembers(3);
+        VaneUnion other = members(3);
         eq(3, other.memberCount());
         eq(0, x.memberCount());
     }
@@ -347,7 +257,7 @@ public final class PromiseTests {
         eq(4, x.lostShifts(2));
         promise = 11;
         eq(4f / 3f, x.lostDays(0));
-        eq(0f, withMembers(1).lostDays(0));
+        eq(0f, members(1).lostDays(0));
         promise = 12;
         eq(0, x.dutiesOf(0));
         eq(4, x.dutiesOf(2));
@@ -436,7 +346,7 @@ public final class PromiseTests {
         int[] way = {0, 1, 2, 3, 4, 3, 2, 1};
         for (int from = 0; from < 8; from++) {
             for (int to = 0; to < 8; to++) {
-                VaneUnion x = withMembers(1);
+                VaneUnion x = members(1);
                 x.setWind(from, 0);
                 x.passShifts(1);
                 int due = way[(to - from + 8) % 8];
@@ -454,7 +364,7 @@ public final class PromiseTests {
                 eq(0, x.stepsToWindByTurning(0));
             }
         }
-        VaneUnion x = withMembers(2);
+        VaneUnion x = members(2);
         for (int member : new int[] {-1, 2, Integer.MIN_VALUE, Integer.MAX_VALUE}) {
             promise = 17;
             refuses(INDEX, () -> x.stepsToWind(member));
@@ -465,7 +375,7 @@ public final class PromiseTests {
 
     private static void testShifts() {
         promise = 19;
-        VaneUnion x = withMembers(3);
+        VaneUnion x = members(3);
         x.setWind(3, 0);
         eq(9, x.passShifts(1));
         eq(3, x.bearingOf(2));
@@ -504,7 +414,7 @@ public final class PromiseTests {
 
     private static void testVotes() {
         promise = 22;
-        VaneUnion x = withMembers(3);
+        VaneUnion x = members(3);
         eq(0, x.vote(2, false));
         eq(1, x.vote(0, true));
         eq(1, x.vote(0, true));
@@ -536,7 +446,7 @@ public final class PromiseTests {
         promise = 25;
         VaneUnion none = new VaneUnion();
         refuses(UNSUPPORTED, () -> none.callStrike());
-        VaneUnion x = withMembers(4);
+        VaneUnion x = members(4);
         x.vote(0, true);
         x.vote(1, true);
         x.vote(2, false);
@@ -571,7 +481,7 @@ public final class PromiseTests {
         promise = 27;
         eq(0, x.strikeShifts());
         promise = 25;
-        VaneUnion odd = withMembers(3);
+        VaneUnion odd = members(3);
         odd.vote(0, true);
         refuses(UNSUPPORTED, () -> odd.callStrike());
         odd.vote(1, true);
@@ -580,7 +490,7 @@ public final class PromiseTests {
 
     private static void testStrikeShiftSteps() {
         promise = 19;
-        VaneUnion x = withMembers(3);
+        VaneUnion x = members(3);
         x.setWind(4, 9);
         x.payIn(5);
         strike(x);
@@ -633,7 +543,7 @@ public final class PromiseTests {
         refuses(ARITHMETIC, () -> none.fundedShiftsByPaying());
         int[][] rows = {{1, 1, 0}, {1, 2, 1}, {1, 999, 499}, {3, 5, 0}, {3, 6, 1}, {3, 11, 1}, {3, 12, 2}, {12, 999, 41}};
         for (int[] row : rows) {
-            VaneUnion x = withMembers(row[0]);
+            VaneUnion x = members(row[0]);
             x.payIn(row[1]);
             promise = 30;
             eq(row[2], x.fundedShifts());
@@ -642,7 +552,7 @@ public final class PromiseTests {
             promise = 29;
             eq(row[1], x.fund());
         }
-        VaneUnion full = withMembers(1);
+        VaneUnion full = members(1);
         for (int i = 0; i < 10; i++) {
             full.payIn(999);
         }
@@ -651,12 +561,12 @@ public final class PromiseTests {
         eq(4999, full.fundedShifts());
         promise = 31;
         eq(4999, full.fundedShiftsByPaying());
-        eq(0, withMembers(2).fundedShiftsByPaying());
+        eq(0, members(2).fundedShiftsByPaying());
     }
 
     private static void testSignUp() {
         promise = 32;
-        VaneUnion x = withMembers(7);
+        VaneUnion x = members(7);
         refuses(STATE, () -> x.signUp(0, 0));
         refuses(INDEX, () -> x.signUp(10, 0));
         refuses(INDEX, () -> x.signUp(0, 7));
@@ -771,22 +681,9 @@ public final class PromiseTests {
         checkDuties(x, 0, 2, 3, 4, 4, 4, 3, 2, 3, 0, 2, 1);
     }
 
-    private static void checkList(VaneUnion x, int roof, int... members) {
-        eq(members.length, x.listLength(roof));
-        for (int position = 0; position < members.length; position++) {
-            eq(members[position], x.listedAt(roof, position));
-        }
-    }
-
-    private static void checkDuties(VaneUnion x, int... duties) {
-        for (int member = 0; member < duties.length; member++) {
-            eq(duties[member], x.dutiesOf(member));
-        }
-    }
-
     private static void testOffers() {
         promise = 37;
-        VaneUnion x = withMembers(5);
+        VaneUnion x = members(5);
         refuses(STATE, () -> x.makeOffer(10));
         refuses(ARGUMENT, () -> x.makeOffer(0));
         strike(x);
@@ -807,7 +704,7 @@ public final class PromiseTests {
 
     private static void testAccept() {
         promise = 38;
-        VaneUnion x = withMembers(4);
+        VaneUnion x = members(4);
         refuses(ELEMENT, () -> x.accept(0));
         strike(x);
         refuses(ELEMENT, () -> x.accept(0));
@@ -1001,7 +898,7 @@ public final class PromiseTests {
 
     private static void testRunAllOrNothing() {
         promise = 48;
-        VaneUnion x = withMembers(2);
+        VaneUnion x = members(2);
         x.payIn(5);
         x.save();
         write(x, "pay 7;vote 0+;vote 1+;strike;shift 3;picket 1 0;accept 0");
@@ -1078,7 +975,7 @@ public final class PromiseTests {
             {"vote 0+;vote 1+;strike;picket 0 1;picket 1 1", "4"}, {"vote 0+;vote 1+;strike;offer 1;accept 2", "4"},
             {"vote 0+;vote 1+;strike;off 1", "3"}, {"vote 0+;vote 1-;strike", "2"},
         };
-        VaneUnion x = withMembers(2);
+        VaneUnion x = members(2);
         x.setWind(3, 3);
         for (String[] row : rows) {
             write(x, row[0]);
@@ -1124,7 +1021,7 @@ public final class PromiseTests {
 
     private static void testLineQueries() {
         promise = 52;
-        VaneUnion x = withMembers(2);
+        VaneUnion x = members(2);
         refuses(INDEX, () -> x.lineAt(0));
         eq(7, x.describeMember(1));
         eq('m', x.lineAt(0));
@@ -1156,7 +1053,7 @@ public final class PromiseTests {
     private static void testMeanLostDays() {
         promise = 53;
         refuses(ARITHMETIC, () -> new VaneUnion().meanLostDays());
-        VaneUnion x = withMembers(7);
+        VaneUnion x = members(7);
         eq(0.0, x.meanLostDays());
         strike(x);
         x.passShifts(1);
@@ -1300,7 +1197,7 @@ public final class PromiseTests {
     private static void testUndoGoesBackOneChange() {
         promise = 55;
         Call[] changes = new Call[11];
-        VaneUnion x = withMembers(3);
+        VaneUnion x = members(3);
         changes[0] = () -> x.addMember(0, 1);
         changes[1] = () -> x.setWind(1, 1);
         changes[2] = () -> x.passShifts(1);
@@ -1326,7 +1223,7 @@ public final class PromiseTests {
 
     private static void testSnapshot() {
         promise = 57;
-        VaneUnion x = withMembers(3);
+        VaneUnion x = members(3);
         refuses(STATE, () -> x.restore());
         x.setWind(2, 3);
         x.passShifts(4);
@@ -1403,7 +1300,7 @@ public final class PromiseTests {
 
     private static void testWhatIsNeitherUndoneNorSaved() {
         promise = 55;
-        VaneUnion x = withMembers(1);
+        VaneUnion x = members(1);
         write(x, "xy");
         refuses(ARGUMENT, () -> x.run());
         write(x, "pay 1;pay 0");
@@ -1432,7 +1329,7 @@ public final class PromiseTests {
 
     private static void testRefusedCallsAreNoChanges() {
         promise = 55;
-        VaneUnion x = withMembers(1);
+        VaneUnion x = members(1);
         for (int i = 0; i < 7; i++) {
             x.payIn(1);
         }
