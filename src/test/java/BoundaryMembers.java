@@ -86,6 +86,14 @@ public final class BoundaryMembers extends TestKit {
             x.restore();
             x.addMember(8, 3);
             eq(false, x.hasVoted(0));
+            VaneUnion grown = withOffer(3, 5);
+            grown.save();
+            grown.addMember(0, 5);
+            grown.accept(3);
+            grown.restore();
+            grown.addMember(0, 5);
+            eq(0, grown.acceptances());
+            eq(false, grown.accept(3));
         });
         sentence(2, "`roof`: the roof, 0 to 9", () -> {
             VaneUnion x = new VaneUnion();
@@ -320,6 +328,13 @@ public final class BoundaryMembers extends TestKit {
             strike(x);
             x.passShifts(1);
             checkRanks(x, 11, 10, 9, 8, 7, 6, 5, 4, 3, 2, 1, 0);
+            VaneUnion falling = new VaneUnion();
+            for (int rate : new int[] {7, 6, 5, 20, 1}) {
+                falling.addMember(0, rate);
+            }
+            falling.setWind(0, 1);
+            falling.passShifts(1);
+            checkRanks(falling, 3, 0, 1, 2, 4);
             VaneUnion y = onStrike(1);
             y.passShifts(2);
             settle(y, 1);
@@ -331,12 +346,12 @@ public final class BoundaryMembers extends TestKit {
         });
         sentence(13, "of members with the same wages the one with fewer lost shifts first", () -> {
             VaneUnion x = onStrike(2);
-            x.passShifts(2);
+            x.passShifts(1);
             x.addMember(0, 20);
             x.passShifts(1);
             x.addMember(0, 1);
             checkRanks(x, 3, 2, 0, 1);
-            x.passShifts(1);
+            x.passShifts(30);
             checkRanks(x, 3, 2, 0, 1);
         });
         sentence(13, "then the one with the lower number first", () -> {

@@ -91,6 +91,9 @@ public final class BoundaryOffers extends TestKit {
             }
             eq(6, x.makeOffer(5));
             eq(0, x.makeOffer(5));
+            settle(x, 5);
+            strike(x);
+            eq(0, x.makeOffer(5));
         });
         sentence(37, "All acceptances are removed.", () -> {
             VaneUnion x = withOffer(4, 5);
@@ -258,7 +261,7 @@ public final class BoundaryOffers extends TestKit {
             strike(x);
             eq(1, x.signUp(0, 10));
             refuses(ELEMENT, () -> x.offerPercent());
-            x.makeOffer(1);
+            eq(0, x.makeOffer(1));
             eq(0, x.acceptances());
         });
     }

@@ -572,6 +572,15 @@ public final class BoundaryRecords extends TestKit {
             x.vote(0, true);
             x.vote(1, true);
             eq(2, x.callStrike());
+            VaneUnion other = members(3);
+            other.save();
+            other.undo();
+            other.addMember(7, 20);
+            eq(3, other.restore());
+            eq(2, other.roofOf(2));
+            eq(3, other.rateOf(2));
+            eq(1, other.membersOn(2));
+            eq(0, other.membersOn(7));
         });
     }
 

@@ -23,6 +23,7 @@ public final class BoundaryShifts extends TestKit {
         manyPicketLists();
         allTakePart();
         shiftCount();
+        lastCall();
         day();
         finish("BoundaryShifts");
     }
@@ -404,6 +405,28 @@ public final class BoundaryShifts extends TestKit {
             eq(61, x.shiftCount());
             refuses(ARGUMENT, () -> x.passShifts(31));
             eq(61, x.shiftCount());
+        });
+    }
+
+    /** The 512th call is the last one whose answer is told. */
+    private static void lastCall() {
+        sentence(20, "An object is used for at most 512 calls after it has been made", () -> {
+            VaneUnion x = new VaneUnion();
+            for (int call = 1; call <= 511; call++) {
+                x.passShifts(30);
+            }
+            eq(15330, x.shiftCount());
+            VaneUnion earning = members(12);
+            earning.setWind(0, 1);
+            for (int call = 14; call <= 511; call++) {
+                earning.passShifts(30);
+            }
+            eq(30L * 498 * 78, earning.wageTotal());
+            VaneUnion paying = new VaneUnion();
+            for (int call = 1; call <= 511; call++) {
+                paying.payIn(1);
+            }
+            eq(512, paying.payIn(1));
         });
     }
 

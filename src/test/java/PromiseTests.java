@@ -975,9 +975,9 @@ public final class PromiseTests extends TestKit {
             {"vote 0+;vote 1+;strike;picket 0 1;picket 1 1", "4"}, {"vote 0+;vote 1+;strike;offer 1;accept 2", "4"},
             {"vote 0+;vote 1+;strike;off 1", "3"}, {"vote 0+;vote 1-;strike", "2"},
         };
-        VaneUnion x = members(2);
-        x.setWind(3, 3);
         for (String[] row : rows) {
+            VaneUnion x = members(2);
+            x.setWind(3, 3);
             write(x, row[0]);
             refuses(STATE, () -> x.run());
             eq(Integer.parseInt(row[1]), x.failedCommand());
@@ -988,6 +988,9 @@ public final class PromiseTests extends TestKit {
             eq(false, x.isOnStrike());
             eq(0, x.votesFor());
         }
+        VaneUnion x = members(2);
+        write(x, "vote 0+;vote 1-;strike");
+        refuses(STATE, () -> x.run());
         write(x, "x");
         refuses(ARGUMENT, () -> x.run());
         eq(2, x.failedCommand());
